@@ -1,5 +1,3 @@
-import java.util.Arrays;
-
 /**
  * Files of a story machine of 32 bits, and the memory of the machine that they are loaded into.
  * The words in capitals in the comments are those of the document.
@@ -404,8 +402,8 @@ public final class GlulxHeads {
             if (wanted < 0 || wanted > MEMORY_ROOM) {
                 return;
             }
-            if (wanted < size) {
-                Arrays.fill(bytes, wanted, size, (byte) 0);
+            for (int at = wanted; at < size; at++) {
+                bytes[at] = 0;
             }
             size = wanted;
         }

@@ -23,6 +23,7 @@ public final class MemoryPromises {
         restoreRange();
         changed();
         hash();
+        hashOfAll();
         cell();
         Due.end();
     }
@@ -498,6 +499,16 @@ public final class MemoryPromises {
         Due.is("n below 0, first", x.hash(-1, -1), -2);
         Due.is("n below 0, first", x.hash(MAX, MIN), -2);
         Due.is("no fault", x.told(13), 0);
+    }
+
+    private static void hashOfAll() {
+        GlulxHeads x = Story.loaded(256, 256, 256);
+        int s = 0;
+        for (int at = 0; at < 256; at++) {
+            s = 31 * s + (int) x.read(1, at);
+        }
+        Due.is("all of memory", x.hash(0, 256), s);
+        Due.is("one byte more", x.hash(0, 257), -1);
     }
 
     private static void cell() {
