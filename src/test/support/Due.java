@@ -2,8 +2,28 @@
 public final class Due {
     private static int wrong = 0;
     private static int asked = 0;
+    private static String heading = "";
+    private static final Document DOCUMENT = Document.open();
 
     private Due() {
+    }
+
+    /** What follows is asked by these words of a section of the document, and is told with them if it is wrong. */
+    public static void sentence(String section, String words) {
+        heading = "";
+        if (DOCUMENT != null) {
+            is(section + " of the document has the words \"" + words + "\"", DOCUMENT.quote(section, words) ? 1 : 0, 1);
+        }
+        heading = section + ", \"" + words + "\": ";
+    }
+
+    /** Each word of the section has been quoted by a test. */
+    public static void noSentenceLeft(String section) {
+        heading = "";
+        if (DOCUMENT != null) {
+            String rest = DOCUMENT.rest(section);
+            is(section + ": no test quotes \"" + rest + "\", its length", rest.length(), 0);
+        }
     }
 
     public static void is(String call, long got, long want) {
@@ -11,7 +31,7 @@ public final class Due {
         if (got != want) {
             wrong++;
             if (wrong <= 50) {
-                System.out.println(call + " answered " + got + ", due is " + want);
+                System.out.println(heading + call + " answered " + got + ", due is " + want);
             }
         }
     }
