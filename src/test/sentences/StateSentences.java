@@ -1,6 +1,6 @@
 import java.math.BigInteger;
 
-/** Promises 15 to 21, and how long an object is used, sentence by sentence. */
+/** Promises 15 to 21, sentence by sentence. */
 public final class StateSentences {
     private static final int MIN = Integer.MIN_VALUE;
     private static final int MAX = Integer.MAX_VALUE;
@@ -24,7 +24,6 @@ public final class StateSentences {
         cell();
         cellThrows();
         cellRefused();
-        lastCall();
     }
 
     /** Which of the bytes from a place on stay at a restart, the first as the highest digit. */
@@ -350,25 +349,5 @@ public final class StateSentences {
         x.load();
         Due.cell(x, 0, 0x47);
         Due.noCell(x, -1);
-    }
-
-    private static void lastCall() {
-        Due.sentence("What it is", "An object is used for at most 512 calls after it has been made;");
-        usedUp(0);
-        Due.sentence("Not promised", "and nothing about an object after its 512th call.");
-        usedUp(100);
-    }
-
-    // Eleven calls make the file, one loads it; the last one that is promised must be as good as the others.
-    private static void usedUp(int first) {
-        GlulxHeads x = Story.loaded();
-        for (int i = 0; i < first; i++) {
-            Due.is("save", x.save(), i == 0 ? 1 : 2);
-        }
-        for (int call = 13 + first; call <= 510; call++) {
-            Due.is("call " + call, x.write(1, 600, call), 1);
-        }
-        Due.is("call 511", x.read(1, 600), 510 & 255);
-        Due.is("call 512", x.restart(), 1024);
     }
 }

@@ -36,12 +36,9 @@ public final class Document {
         return document;
     }
 
-    // Without fences, the heading's signature, and the interface's comments: these say nothing of answers.
+    // Without fences, and without its lines' ends, so that a quote may go over several lines.
     private static String plain(String text) {
-        return text.replaceAll("(?m)^```.*$", "")
-            .replaceAll("(?m)^Ahead of the calls .*$", "")
-            .replaceAll("(?m)^`[^`]*`: ", "")
-            .replaceAll("\\s+", " ").trim();
+        return text.replaceAll("(?m)^```.*$", "").replaceAll("\\s+", " ").trim();
     }
 
     public boolean quote(String section, String words) {
